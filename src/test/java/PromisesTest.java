@@ -50,6 +50,7 @@ public final class PromisesTest {
         drawRefusals();
         status();
         count();
+        countOfStrips();
         badComesFirst();
         due.finish();
     }
@@ -344,9 +345,8 @@ public final class PromisesTest {
         x.ripple(0, 0, 1, 1, 8000001);
         due.is("9: 8000001 counts as 8000000", x, x.get(0, LEVELS, 0), 0, DONE);
 
-        due.is("9: MIN twice wraps to 0", x, x.ripple(0, 0, MIN, 3, 1), 1, OUTSIDE);
-        x.hang(0, LEVELS, 3);
-        due.is("9: a sum of places wraps", x, x.ripple(0, 2, 1 << 30, 5, 7), 1, OUTSIDE);
+        due.is("9: ripple(0, 0, MIN, 3, 1)", x, x.ripple(0, 0, MIN, 3, 1), 1, OUTSIDE);
+        due.is("9: ripple(0, 2, 1 << 30, 5, 7)", x, x.ripple(0, 2, 1 << 30, 5, 7), 1, OUTSIDE);
         due.is("9: ripple(0, MAX, MIN, 2, 7)", x, x.ripple(0, MAX, MIN, 2, 7), 0, OUTSIDE);
         due.is("9: ripple(0, 1, MAX, 3, 7)", x, x.ripple(0, 1, MAX, 3, 7), 1, OUTSIDE);
 
@@ -863,6 +863,25 @@ public final class PromisesTest {
         x.sheet(0, 0);
         due.counts("21: ROWS of the new SHEET", x, 9, 0);
         due.counts("21: written so far, the SHEET aside", x, 10, 1);
+    }
+
+    private static void countOfStrips() {
+        LampLoft x = new LampLoft();
+        int there = 0;
+        for (int bank = 0; bank < 6; bank++) {
+            for (int strip = 0; strip < 4; strip++) {
+                x.hang(bank, strip, 1);
+                there++;
+                due.counts("21: hung (" + bank + ", " + strip + ")", x, 7, there);
+            }
+        }
+        for (int bank = 0; bank < 6; bank++) {
+            for (int strip = 0; strip < 4; strip++) {
+                x.strike(bank, strip);
+                there--;
+                due.counts("21: struck (" + bank + ", " + strip + ")", x, 7, there);
+            }
+        }
     }
 
     private static void badComesFirst() {
