@@ -1,5 +1,8 @@
 /** Compares answers with the ones that are due, and ends the program with 1 if one was wrong. */
 final class Due {
+    /** One fault can make millions of answers wrong: the first ones tell enough. */
+    private static final int MOST_TOLD = 100;
+
     private int checked = 0;
     private int wrong = 0;
 
@@ -7,7 +10,9 @@ final class Due {
         checked++;
         if (got != want) {
             wrong++;
-            System.out.println(call + " answered " + got + ", due is " + want);
+            if (wrong <= MOST_TOLD) {
+                System.out.println(call + " answered " + got + ", due is " + want);
+            }
         }
     }
 
