@@ -5,6 +5,7 @@ import java.lang.reflect.Method;
 import java.lang.reflect.Modifier;
 import java.nio.file.Files;
 import java.nio.file.Path;
+import java.util.List;
 import java.util.Map;
 import java.util.TreeMap;
 import java.util.regex.Matcher;
@@ -24,12 +25,28 @@ public final class FaceTest {
         "\\bObject\\b", "\\bwhile\\s*\\(\\s*true", "java\\.",
     };
 
+    private static final Path DOCUMENT = Path.of("../shared/DOC.md");
+    private static final Pattern MEMBER = Pattern.compile("(?m)^    (public (?:int \\w+|LampLoft)\\([^)]*\\))");
+
     private static final Due due = new Due();
 
     public static void main(String[] args) throws IOException {
         members();
-        text(Files.readString(Path.of("src/main/java/LampLoft.java")));
+        String source = Files.readString(Path.of("src/main/java/LampLoft.java"));
+        text(source);
+        if (Files.isReadable(DOCUMENT)) {
+            List<String> face = membersIn(Files.readString(DOCUMENT));
+            due.is("members in the document's face", face.size(), FACE.size() + 1);
+            due.is("the document has " + face + ", the class " + membersIn(source), face.equals(membersIn(source)) ? 1 : 0, 1);
+        } else {
+            System.out.println("NOT COMPARED with the face in " + DOCUMENT + ", which can't be read here");
+        }
         due.finish();
+    }
+
+    /** As they are written, so that the names and the order of what they take are compared, too. */
+    private static List<String> membersIn(String text) {
+        return MEMBER.matcher(text).results().map(member -> member.group(1)).toList();
     }
 
     private static void members() {
